@@ -1,0 +1,47 @@
+/** Promise 11: sync. */
+public final class Promise11SyncTest {
+    public static void main(String[] args) {
+        answersHowManyWereNotDurable();
+        keepsWhatWasChanged();
+        leavesTheTransactionOpen();
+        Check.end();
+    }
+
+    private static void answersHowManyWereNotDurable() {
+        MailAgent agent = Check.agent();
+        Check.due("nothing yet", agent.sync(), 0);
+        Check.send(agent, -1, 0, 1);
+        Check.due("an accepted message is durable", agent.sync(), 0);
+        Check.makeChanges(agent, 1, 23);
+        Check.due("sync()", agent.sync(), 23);
+        Check.due("count(3)", agent.count(3), 0);
+        Check.due("sync() again", agent.sync(), 0);
+    }
+
+    private static void keepsWhatWasChanged() {
+        MailAgent agent = Check.agent();
+        agent.route(1, 1, 1);
+        agent.host(1, Check.BUSY);
+        Check.send(agent, 5, 9, 2, 8);
+        Check.send(agent, 6, 0, 3);
+        agent.tick(10);
+        Check.due("two delivered, one put off, one left", agent.sync(), 4);
+        agent.drop(1);
+        Check.due("crash()", agent.crash(), 1);
+        Check.due("count(0)", agent.count(0), 1);
+        Check.due("status(1, 2)", agent.status(1, 2), Check.DELIVERED);
+        Check.due("status(1, 8)", agent.status(1, 8), Check.WAITING);
+        Check.due("due(1)", agent.due(1), 15);
+        agent.tick(15);
+        Check.due("the gap was kept too", agent.due(1), 25);
+    }
+
+    private static void leavesTheTransactionOpen() {
+        MailAgent agent = Check.agent();
+        agent.from(1);
+        agent.to(2);
+        agent.sync();
+        Check.due("count(6)", agent.count(6), 1);
+        Check.due("data(0)", agent.data(0), 1);
+    }
+}

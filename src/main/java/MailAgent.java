@@ -377,7 +377,7 @@ public final class MailAgent {
         private final long[] goals = new long[LOCALS];
 
         boolean hasRoomFor(int local, int goal) {
-            return Long.bitCount(goals[local]) < MOST_GOALS && (goals[local] & 1L << goal) == 0L;
+            return Long.bitCount(goals[local]) < MOST_GOALS && (goals[local] & (1L << goal)) == 0L;
         }
 
         int add(int local, int goal) {
@@ -406,7 +406,7 @@ public final class MailAgent {
             // No shortest chain passes a local address twice, so as many rounds as there are of them reach all.
             for (int round = 0; round < LOCALS; round++) {
                 for (int local = 0; local < LOCALS; local++) {
-                    if ((reached & 1L << local) != 0L) {
+                    if ((reached & (1L << local)) != 0L) {
                         reached |= goals[local];
                     }
                 }
@@ -467,7 +467,7 @@ public final class MailAgent {
 
         void addRising(long added) {
             for (int address = 0; address < ADDRESSES; address++) {
-                if ((added & 1L << address) != 0L) {
+                if ((added & (1L << address)) != 0L) {
                     add(address);
                 }
             }

@@ -53,6 +53,14 @@ final class Check {
         return agent;
     }
 
+    /** An agent whose domain 1 has one route, to host 1, which is BUSY; the other domains have none. */
+    static MailAgent busyAgent() {
+        MailAgent agent = agent();
+        due("route to a busy host", agent.route(1, 1, 1), 1);
+        due("host(1, 1)", agent.host(1, BUSY), UP);
+        return agent;
+    }
+
     /** Sends one message and answers its number; no address may have goals. */
     static int send(MailAgent agent, int sender, int size, int... addresses) {
         due("from(" + sender + ")", agent.from(sender), 0);

@@ -102,9 +102,7 @@ public final class Promise09DataTest {
     }
 
     private static void startsAtTheClock() {
-        MailAgent agent = Check.agent();
-        agent.route(1, 1, 1);
-        agent.host(1, Check.BUSY);
+        MailAgent agent = Check.busyAgent();
         agent.tick(100);
         Check.send(agent, 5, 0, 8);
         agent.tick(100);

@@ -43,7 +43,7 @@ public final class Promise10TickTest {
     }
 
     private static void attemptsOnlyWhatIsDue() {
-        MailAgent agent = busyAgent();
+        MailAgent agent = Check.busyAgent();
         Check.send(agent, -1, 0, 8);
         agent.tick(0);
         agent.host(1, Check.UP);
@@ -90,7 +90,7 @@ public final class Promise10TickTest {
     }
 
     private static void failsWithoutRoutes() {
-        MailAgent agent = busyAgent();
+        MailAgent agent = Check.busyAgent();
         Check.send(agent, 3, 0, 8, 16, 4);
         Check.due("tick(0)", agent.tick(0), 1);
         Check.due("busy", agent.status(1, 8), Check.WAITING);
@@ -101,7 +101,7 @@ public final class Promise10TickTest {
     }
 
     private static void triesOnlyTheWaiting() {
-        MailAgent agent = busyAgent();
+        MailAgent agent = Check.busyAgent();
         Check.send(agent, -1, 0, 4, 8, 16);
         agent.tick(0);
         agent.route(2, 2, 0);
@@ -112,7 +112,7 @@ public final class Promise10TickTest {
     }
 
     private static void givesUpInTime() {
-        MailAgent agent = busyAgent();
+        MailAgent agent = Check.busyAgent();
         Check.send(agent, 3, 10, 8, 9);
         agent.tick(59);
         Check.due("both wait", agent.count(2), 2);
@@ -177,11 +177,11 @@ public final class Promise10TickTest {
     }
 
     private static void reportIsPutOffToo() {
-        MailAgent agent = busyAgent();
+        MailAgent agent = Check.busyAgent();
         Check.send(agent, 8, 0, 9);
         agent.tick(0);
         agent.tick(5);
-        Check.due("the gap is 20 next", agent.due(1), 15);
+        Check.due("the second gap", agent.due(1), 15);
         agent.tick(60);
         Check.due("the report is due at once", agent.due(1), 60);
         Check.due("its recipient is the sender", agent.status(1, 8), Check.WAITING);
@@ -192,7 +192,7 @@ public final class Promise10TickTest {
     }
 
     private static void reportWaitsFromItsOwnStart() {
-        MailAgent agent = busyAgent();
+        MailAgent agent = Check.busyAgent();
         Check.send(agent, 8, 0, 9);
         agent.tick(70);
         agent.tick(129);
@@ -211,7 +211,7 @@ public final class Promise10TickTest {
     }
 
     private static void remembersEarlierFailure() {
-        MailAgent agent = busyAgent();
+        MailAgent agent = Check.busyAgent();
         Check.send(agent, 3, 0, 16, 8);
         agent.tick(0);
         agent.host(1, Check.UP);
@@ -220,7 +220,7 @@ public final class Promise10TickTest {
     }
 
     private static void removesFromTheMiddle() {
-        MailAgent agent = busyAgent();
+        MailAgent agent = Check.busyAgent();
         Check.send(agent, -1, 0, 8);
         Check.send(agent, -1, 0, 1);
         Check.send(agent, -1, 0, 2);
@@ -260,12 +260,5 @@ public final class Promise10TickTest {
         Check.due("30 changes at the end of the call", agent.count(3), 0);
         Check.due("crash()", agent.crash(), 0);
         Check.due("count(0)", agent.count(0), 0);
-    }
-
-    private static MailAgent busyAgent() {
-        MailAgent agent = Check.agent();
-        agent.route(1, 1, 1);
-        agent.host(1, Check.BUSY);
-        return agent;
     }
 }

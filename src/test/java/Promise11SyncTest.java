@@ -19,9 +19,7 @@ public final class Promise11SyncTest {
     }
 
     private static void keepsWhatWasChanged() {
-        MailAgent agent = Check.agent();
-        agent.route(1, 1, 1);
-        agent.host(1, Check.BUSY);
+        MailAgent agent = Check.busyAgent();
         Check.send(agent, 5, 9, 2, 8);
         Check.send(agent, 6, 0, 3);
         agent.tick(10);

@@ -4,6 +4,7 @@ public final class Promise12CrashTest {
         bringsBackWhatLeft();
         bringsBackStatesDueGapAndStart();
         bringsBackWhatBecameAReport();
+        bringsBackTheStartFromAReport();
         bringsBackAReportAsAReport();
         closesTheTransaction();
         keepsDeliveriesAndClock();
@@ -33,7 +34,7 @@ public final class Promise12CrashTest {
     }
 
     private static void bringsBackStatesDueGapAndStart() {
-        MailAgent agent = busyAgent();
+        MailAgent agent = Check.busyAgent();
         agent.tick(10);
         Check.send(agent, 5, 0, 2, 8, 16);
         agent.tick(20);
@@ -68,6 +69,18 @@ public final class Promise12CrashTest {
         Check.due("tick(12)", agent.tick(12), 2);
         Check.due("it is no report", agent.received(8, 0), 1);
         Check.due("it is no report", agent.received(8, 1), 0);
+    }
+
+    private static void bringsBackTheStartFromAReport() {
+        MailAgent agent = Check.busyAgent();
+        Check.send(agent, 5, 0, 8);
+        agent.host(1, Check.GONE);
+        agent.tick(50);
+        Check.due("a report that starts at 50", agent.status(1, 5), Check.WAITING);
+        agent.crash();
+        agent.host(1, Check.BUSY);
+        agent.tick(60);
+        Check.due("given up 60 after the first start", agent.status(1, 5), Check.WAITING);
     }
 
     private static void bringsBackAReportAsAReport() {
@@ -145,12 +158,5 @@ public final class Promise12CrashTest {
         agent.crash();
         Check.due("count(5)", agent.count(5), 1);
         Check.due("the next number", Check.send(agent, 3, 1, 1), 2);
-    }
-
-    private static MailAgent busyAgent() {
-        MailAgent agent = Check.agent();
-        agent.route(1, 1, 1);
-        agent.host(1, Check.BUSY);
-        return agent;
     }
 }

@@ -27,9 +27,7 @@ public final class Promise13DropTest {
     }
 
     private static void sendsNoReport() {
-        MailAgent agent = Check.agent();
-        agent.route(1, 1, 1);
-        agent.host(1, Check.BUSY);
+        MailAgent agent = Check.busyAgent();
         Check.send(agent, 3, 0, 8, 16);
         agent.tick(0);
         Check.due("status(1, 16)", agent.status(1, 16), Check.FAILED);

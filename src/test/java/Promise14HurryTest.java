@@ -10,7 +10,7 @@ public final class Promise14HurryTest {
     }
 
     private static void makesItDueAtTheClock() {
-        MailAgent agent = busyAgent();
+        MailAgent agent = Check.busyAgent();
         Check.send(agent, 3, 0, 8);
         Check.send(agent, 3, 0, 9);
         agent.tick(2);
@@ -27,7 +27,7 @@ public final class Promise14HurryTest {
     }
 
     private static void leavesTheGap() {
-        MailAgent agent = busyAgent();
+        MailAgent agent = Check.busyAgent();
         Check.send(agent, 3, 0, 8);
         agent.tick(0);
         agent.hurry(1);
@@ -66,7 +66,7 @@ public final class Promise14HurryTest {
     }
 
     private static void isAChange() {
-        MailAgent agent = busyAgent();
+        MailAgent agent = Check.busyAgent();
         Check.send(agent, 3, 0, 8);
         agent.tick(0);
         agent.sync();
@@ -79,12 +79,5 @@ public final class Promise14HurryTest {
         Check.due("24 changes are durable", agent.count(3), 0);
         Check.due("crash()", agent.crash(), 0);
         Check.due("due(1)", agent.due(1), 0);
-    }
-
-    private static MailAgent busyAgent() {
-        MailAgent agent = Check.agent();
-        agent.route(1, 1, 1);
-        agent.host(1, Check.BUSY);
-        return agent;
     }
 }

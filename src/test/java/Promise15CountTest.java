@@ -32,9 +32,7 @@ public final class Promise15CountTest {
     }
 
     private static void countsFailedAndDeliveredAsNotWaiting() {
-        MailAgent agent = Check.agent();
-        agent.route(1, 1, 1);
-        agent.host(1, Check.BUSY);
+        MailAgent agent = Check.busyAgent();
         Check.send(agent, 3, 0, 1, 8, 16, 9);
         agent.tick(0);
         countsAre(agent, 1, 5, 2, 3, 0, 1, -1);

@@ -8,9 +8,7 @@ public final class Promise17StatusTest {
     }
 
     private static void tellsEachState() {
-        MailAgent agent = Check.agent();
-        agent.route(1, 1, 1);
-        agent.host(1, Check.BUSY);
+        MailAgent agent = Check.busyAgent();
         Check.send(agent, 3, 0, 0, 63, 8);
         for (int address : new int[] {0, 63, 8}) {
             Check.due("before: status(1, " + address + ")", agent.status(1, address), Check.WAITING);

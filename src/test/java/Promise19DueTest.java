@@ -1,9 +1,7 @@
 /** Promise 19: due. */
 public final class Promise19DueTest {
     public static void main(String[] args) {
-        MailAgent agent = Check.agent();
-        agent.route(1, 1, 1);
-        agent.host(1, Check.BUSY);
+        MailAgent agent = Check.busyAgent();
         Check.due("an empty queue", agent.due(0), -1);
         Check.send(agent, 3, 0, 8);
         Check.due("due(1)", agent.due(1), 0);

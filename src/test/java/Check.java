@@ -1,3 +1,5 @@
+import java.util.function.IntUnaryOperator;
+
 /** What the tests share: it prints every answer that is not the one that is due, and ends the test. */
 final class Check {
     static final int UP = 0;
@@ -27,6 +29,22 @@ final class Check {
             wrong++;
             System.out.println("does not hold: " + what);
         }
+    }
+
+    /** Both ends of a range and what lies beside them inside answer want; what lies outside answers SYNTAX. */
+    static void range(String call, int least, int most, int want, IntUnaryOperator ask) {
+        for (int inside : new int[] {least, least + 1, most - 1, most}) {
+            due(call + ", n = " + inside, ask.applyAsInt(inside), want);
+        }
+        for (int outside : outside(least, most)) {
+            due(call + ", n = " + outside, ask.applyAsInt(outside), MailAgent.SYNTAX);
+        }
+    }
+
+    /** The first values outside a range of less than 256, the ends of int, and what a byte or a short would wrap. */
+    static int[] outside(int least, int most) {
+        return new int[] {least - 1, most + 1, Integer.MIN_VALUE, Integer.MAX_VALUE,
+            least + 256, most - 256, least + 65536, most - 65536};
     }
 
     static int wrongAnswers() {
@@ -68,6 +86,34 @@ final class Check {
             due("to(" + address + ")", agent.to(address), 1);
         }
         return agent.data(size);
+    }
+
+    /** What a message to the address is for: exactly these, at most 4; the message is dropped again. */
+    static void finalsAre(MailAgent agent, int address, int... finals) {
+        due("from(-1)", agent.from(-1), 0);
+        due("to(" + address + ")", agent.to(address), finals.length);
+        int number = agent.data(0);
+        for (int recipient : finals) {
+            due("status of " + recipient, agent.status(number, recipient), WAITING);
+        }
+        due("drop(" + number + ")", agent.drop(number), 1);
+    }
+
+    /** The hosts that carry to a domain, one after another, each one made BUSY after it has carried; then none does. */
+    static void carriersAre(MailAgent agent, int domain, int... hosts) {
+        int clock = agent.count(4);
+        for (int host : hosts) {
+            int before = agent.received(host, 3);
+            int number = send(agent, -1, 0, domain * 8);
+            due("tick, carried by " + host, agent.tick(clock), 1);
+            due("status", agent.status(number, domain * 8), 0);
+            due("received(" + host + ", 3)", agent.received(host, 3), before + 1);
+            due("host(" + host + ", 1)", agent.host(host, BUSY), UP);
+        }
+        int number = send(agent, -1, 0, domain * 8);
+        due("tick, carried by none", agent.tick(clock), 0);
+        due("status", agent.status(number, domain * 8), WAITING);
+        due("drop(" + number + ")", agent.drop(number), 1);
     }
 
     /** Makes the changes that are not durable exactly so many, 23 at most, by hurrying a message. */

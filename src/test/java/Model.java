@@ -9,13 +9,9 @@ import java.util.TreeSet;
 
 /**
  * A second reading of the document, with the Java library and without thrift, against which the program is compared.
- * It is told a call as a row: the index of the method in METHODS, then the arguments.
+ * It is told a call as a row of Calls.
  */
 final class Model {
-    static final String[] METHODS = {"alias", "unalias", "route", "unroute", "host", "from", "to", "data", "tick",
-        "sync", "crash", "drop", "hurry", "count", "message", "status", "sender", "due", "received"};
-    static final int[] PARAMETERS = {2, 1, 3, 1, 2, 1, 1, 1, 1, 0, 0, 1, 1, 1, 1, 2, 1, 1, 2};
-
     private record Route(int host, int preference) {
     }
 
@@ -72,7 +68,7 @@ final class Model {
     }
 
     int call(int[] row) {
-        int answer = answer(METHODS[row[0]], Arrays.copyOfRange(row, 1, row.length));
+        int answer = answer(Calls.METHODS[row[0]], Arrays.copyOfRange(row, 1, row.length));
         if (changes >= 24) {
             allDurable();
         }

@@ -7,7 +7,7 @@ public final class ModelTest {
     private static final int CALLS = 380;
     private static final int[] ODD = {-2, -1, 0, 1, 7, 8, 40, 41, 63, 64, 99, 100, 1000000, 1000001,
         Integer.MIN_VALUE, Integer.MAX_VALUE};
-    /** How often each method of Model.METHODS is called, in parts of their sum. */
+    /** How often each method of Calls.METHODS is called, in parts of their sum. */
     private static final int[] WEIGHTS = {3, 1, 3, 1, 8, 16, 28, 18, 22, 2, 4, 3, 6, 10, 3, 8, 3, 6, 6};
 
     public static void main(String[] args) {
@@ -62,7 +62,7 @@ public final class ModelTest {
     }
 
     private static int[] row(Random random, int method, Model model) {
-        int[] row = new int[1 + Model.PARAMETERS[method]];
+        int[] row = new int[1 + Calls.PARAMETERS[method]];
         row[0] = method;
         for (int i = 1; i < row.length; i++) {
             row[i] = random.nextInt(60) == 0 ? ODD[random.nextInt(ODD.length)] : usual(random, method, i, model);
@@ -72,7 +72,7 @@ public final class ModelTest {
 
     /** Few domains and hosts are used, so that calls meet. */
     private static int usual(Random random, int method, int place, Model model) {
-        switch (Model.METHODS[method]) {
+        switch (Calls.METHODS[method]) {
             case "alias":
                 return place == 1 ? random.nextInt(4) : address(random);
             case "route":
@@ -122,53 +122,6 @@ public final class ModelTest {
 
     private static void same(int run, MailAgent agent, Model model, int[] row) {
         int want = model.call(row);
-        StringBuilder told = new StringBuilder("run " + run + ": " + Model.METHODS[row[0]]);
-        for (int i = 1; i < row.length; i++) {
-            told.append(' ').append(row[i]);
-        }
-        Check.due(told.toString(), ask(agent, row), want);
-    }
-
-    private static int ask(MailAgent agent, int[] row) {
-        switch (Model.METHODS[row[0]]) {
-            case "alias":
-                return agent.alias(row[1], row[2]);
-            case "unalias":
-                return agent.unalias(row[1]);
-            case "route":
-                return agent.route(row[1], row[2], row[3]);
-            case "unroute":
-                return agent.unroute(row[1]);
-            case "host":
-                return agent.host(row[1], row[2]);
-            case "from":
-                return agent.from(row[1]);
-            case "to":
-                return agent.to(row[1]);
-            case "data":
-                return agent.data(row[1]);
-            case "tick":
-                return agent.tick(row[1]);
-            case "sync":
-                return agent.sync();
-            case "crash":
-                return agent.crash();
-            case "drop":
-                return agent.drop(row[1]);
-            case "hurry":
-                return agent.hurry(row[1]);
-            case "count":
-                return agent.count(row[1]);
-            case "message":
-                return agent.message(row[1]);
-            case "status":
-                return agent.status(row[1], row[2]);
-            case "sender":
-                return agent.sender(row[1]);
-            case "due":
-                return agent.due(row[1]);
-            default:
-                return agent.received(row[1], row[2]);
-        }
+        Check.due("run " + run + ": " + Calls.told(row), Calls.ask(agent, row), want);
     }
 }

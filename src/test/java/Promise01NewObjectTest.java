@@ -1,11 +1,22 @@
 /** Promise 1: a new object, and how its three numbers are clamped. */
 public final class Promise01NewObjectTest {
+    private static final int MIN = Integer.MIN_VALUE;
+    private static final int MAX = Integer.MAX_VALUE;
+
     public static void main(String[] args) {
         allIsEmptyAtFirst();
         constantsAreAsTold();
-        minGapIsClamped();
-        maxGapIsClamped();
-        giveUpIsClamped();
+        minGapTooSmall();
+        minGapInside();
+        minGapTooLarge();
+        maxGapTooSmall();
+        maxGapInside();
+        maxGapTooLarge();
+        maxGapIsClampedAfterMinGap();
+        giveUpTooSmall();
+        giveUpInside();
+        giveUpTooLarge();
+        giveUpIsClampedAfterMaxGap();
         objectsShareNothing();
         Check.end();
     }
@@ -43,42 +54,98 @@ public final class Promise01NewObjectTest {
         Check.due("FULL", MailAgent.FULL, -452);
     }
 
-    private static void minGapIsClamped() {
-        gapsAre(new MailAgent(0, 600, 6000), "0 600 6000", 1, 2, 4, 8, 16, 32, 64, 128, 256, 512, 600, 600);
-        gapsAre(new MailAgent(-5, 600, 6000), "-5 600 6000", 1, 2);
-        gapsAre(new MailAgent(Integer.MIN_VALUE, 600, 6000), "MIN 600 6000", 1, 2);
-        gapsAre(new MailAgent(1, 600, 6000), "1 600 6000", 1, 2);
-        gapsAre(new MailAgent(2, 600, 6000), "2 600 6000", 2, 4);
-        gapsAre(new MailAgent(59, 600, 6000), "59 600 6000", 59, 118);
-        gapsAre(new MailAgent(60, 600, 6000), "60 600 6000", 60, 120);
-        gapsAre(new MailAgent(61, 600, 6000), "61 600 6000", 60, 120);
-        gapsAre(new MailAgent(Integer.MAX_VALUE, 600, 6000), "MAX 600 6000", 60, 120);
+    /** "minGap is clamped to 1 .. 60" */
+    private static void minGapTooSmall() {
+        gapsAre(0, 600, 6000, 1, 2, 4, 8, 16, 32, 64, 128, 256, 512, 600, 600);
+        gapsAre(-1, 600, 6000, 1, 2, 4);
+        gapsAre(MIN, 600, 6000, 1, 2, 4);
     }
 
-    private static void maxGapIsClamped() {
-        gapsAre(new MailAgent(10, 5, 6000), "10 5 6000", 10, 10);
-        gapsAre(new MailAgent(10, Integer.MIN_VALUE, 6000), "10 MIN 6000", 10, 10);
-        gapsAre(new MailAgent(10, 10, 6000), "10 10 6000", 10, 10);
-        gapsAre(new MailAgent(10, 11, 6000), "10 11 6000", 10, 11, 11);
-        gapsAre(new MailAgent(100, 1, 6000), "100 1 6000", 60, 60);
-        gapsAre(new MailAgent(60, 599, 6000), "60 599 6000", 60, 120, 240, 480, 599, 599);
-        gapsAre(new MailAgent(60, 600, 6000), "60 600 6000", 60, 120, 240, 480, 600, 600);
-        gapsAre(new MailAgent(60, 601, 6000), "60 601 6000", 60, 120, 240, 480, 600, 600);
-        gapsAre(new MailAgent(60, Integer.MAX_VALUE, 6000), "60 MAX 6000", 60, 120, 240, 480, 600, 600);
+    /** "minGap is clamped to 1 .. 60" */
+    private static void minGapInside() {
+        gapsAre(1, 600, 6000, 1, 2, 4);
+        gapsAre(2, 600, 6000, 2, 4, 8);
+        gapsAre(59, 600, 6000, 59, 118, 236, 472, 600, 600);
+        gapsAre(60, 600, 6000, 60, 120, 240, 480, 600, 600);
     }
 
-    private static void giveUpIsClamped() {
-        givesUpAfter(new MailAgent(0, 0, 0), "0 0 0", 1);
-        givesUpAfter(new MailAgent(5, 20, 3), "5 20 3", 20);
-        givesUpAfter(new MailAgent(5, 20, Integer.MIN_VALUE), "5 20 MIN", 20);
-        givesUpAfter(new MailAgent(5, 20, 20), "5 20 20", 20);
-        givesUpAfter(new MailAgent(5, 20, 21), "5 20 21", 21);
-        givesUpAfter(new MailAgent(70, 1, 1), "70 1 1", 60);
-        givesUpAfter(new MailAgent(1, 700, 1), "1 700 1", 600);
-        givesUpAfter(new MailAgent(1, 1, 5999), "1 1 5999", 5999);
-        givesUpAfter(new MailAgent(1, 1, 6000), "1 1 6000", 6000);
-        givesUpAfter(new MailAgent(1, 1, 6001), "1 1 6001", 6000);
-        givesUpAfter(new MailAgent(1, 1, Integer.MAX_VALUE), "1 1 MAX", 6000);
+    /** "minGap is clamped to 1 .. 60" */
+    private static void minGapTooLarge() {
+        gapsAre(61, 600, 6000, 60, 120);
+        gapsAre(600, 600, 6000, 60, 120);
+        gapsAre(MAX, 600, 6000, 60, 120);
+    }
+
+    /** "then maxGap to minGap .. 600" */
+    private static void maxGapTooSmall() {
+        gapsAre(10, 9, 6000, 10, 10, 10);
+        gapsAre(10, 0, 6000, 10, 10);
+        gapsAre(10, -1, 6000, 10, 10);
+        gapsAre(10, MIN, 6000, 10, 10);
+    }
+
+    /** "then maxGap to minGap .. 600" */
+    private static void maxGapInside() {
+        gapsAre(10, 10, 6000, 10, 10, 10);
+        gapsAre(10, 11, 6000, 10, 11, 11);
+        gapsAre(60, 599, 6000, 60, 120, 240, 480, 599, 599);
+        gapsAre(60, 600, 6000, 60, 120, 240, 480, 600, 600);
+    }
+
+    /** "then maxGap to minGap .. 600" */
+    private static void maxGapTooLarge() {
+        gapsAre(60, 601, 6000, 60, 120, 240, 480, 600, 600);
+        gapsAre(60, 6000, 6000, 60, 120, 240, 480, 600, 600);
+        gapsAre(60, MAX, 6000, 60, 120, 240, 480, 600, 600);
+    }
+
+    /** "then": the bound is the minGap that has been clamped. */
+    private static void maxGapIsClampedAfterMinGap() {
+        gapsAre(100, 70, 6000, 60, 70, 70);
+        gapsAre(100, 1, 6000, 60, 60, 60);
+        gapsAre(-5, -5, 6000, 1, 1, 1);
+        gapsAre(MIN, MIN, MAX, 1, 1, 1);
+        gapsAre(MAX, MIN, MAX, 60, 60, 60);
+        gapsAre(700, 650, 6000, 60, 120, 240, 480, 600, 600);
+    }
+
+    /** "then giveUp to maxGap .. 6000" */
+    private static void giveUpTooSmall() {
+        givesUpAfter(5, 20, 19, 20);
+        givesUpAfter(5, 20, 0, 20);
+        givesUpAfter(5, 20, -1, 20);
+        givesUpAfter(5, 20, MIN, 20);
+        givesUpAfter(1, 600, 599, 600);
+    }
+
+    /** "then giveUp to maxGap .. 6000" */
+    private static void giveUpInside() {
+        givesUpAfter(5, 20, 20, 20);
+        givesUpAfter(5, 20, 21, 21);
+        givesUpAfter(1, 1, 1, 1);
+        givesUpAfter(1, 1, 2, 2);
+        givesUpAfter(1, 600, 600, 600);
+        givesUpAfter(1, 600, 601, 601);
+        givesUpAfter(1, 1, 5999, 5999);
+        givesUpAfter(1, 1, 6000, 6000);
+    }
+
+    /** "then giveUp to maxGap .. 6000" */
+    private static void giveUpTooLarge() {
+        givesUpAfter(1, 1, 6001, 6000);
+        givesUpAfter(60, 600, 60000, 6000);
+        givesUpAfter(1, 1, MAX, 6000);
+    }
+
+    /** "then": the bound is the maxGap that has been clamped. */
+    private static void giveUpIsClampedAfterMaxGap() {
+        givesUpAfter(10, 5, 7, 10);
+        givesUpAfter(70, 1, 1, 60);
+        givesUpAfter(1, 700, 650, 650);
+        givesUpAfter(1, 700, 1, 600);
+        givesUpAfter(0, 0, 0, 1);
+        givesUpAfter(MIN, MIN, MIN, 1);
+        givesUpAfter(MAX, MAX, MAX, 6000);
     }
 
     private static void objectsShareNothing() {
@@ -96,23 +163,27 @@ public final class Promise01NewObjectTest {
         Check.due("second received(3, 0)", second.received(3, 0), 0);
     }
 
-    private static void gapsAre(MailAgent agent, String made, int... gaps) {
+    private static void gapsAre(int minGap, int maxGap, int giveUp, int... gaps) {
+        MailAgent agent = new MailAgent(minGap, maxGap, giveUp);
         int number = sendToBusyHost(agent);
         int clock = 0;
         for (int gap : gaps) {
             agent.tick(clock);
             clock += gap;
-            Check.due("made with " + made + ": due after a gap of " + gap, agent.due(number), clock);
+            Check.due("made with " + minGap + " " + maxGap + " " + giveUp + ": due after a gap of " + gap,
+                agent.due(number), clock);
         }
     }
 
-    private static void givesUpAfter(MailAgent agent, String made, int time) {
+    private static void givesUpAfter(int minGap, int maxGap, int giveUp, int time) {
+        MailAgent agent = new MailAgent(minGap, maxGap, giveUp);
+        String made = "made with " + minGap + " " + maxGap + " " + giveUp;
         int number = sendToBusyHost(agent);
         agent.tick(time - 1);
-        Check.due("made with " + made + ": status before", agent.status(number, 8), Check.WAITING);
+        Check.due(made + ": status before " + time, agent.status(number, 8), Check.WAITING);
         agent.hurry(number);
         agent.tick(time);
-        Check.due("made with " + made + ": messages after " + time, agent.count(0), 0);
+        Check.due(made + ": messages after " + time, agent.count(0), 0);
     }
 
     private static int sendToBusyHost(MailAgent agent) {

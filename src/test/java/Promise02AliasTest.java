@@ -1,25 +1,51 @@
 /** Promise 2: alias. */
 public final class Promise02AliasTest {
     public static void main(String[] args) {
-        addsGoalsUpToFour();
+        answersHowManyItHasThen();
+        refusesAFifthGoal();
+        refusesAGoalThatItHas();
         keepsLocalsApart();
-        refusesWhatIsOutOfRange();
-        refusalChangesNothing();
+        localIsZeroToSeven();
+        goalIsZeroToSixtyThree();
+        testsTheRangeBeforeTheRoom();
+        refusedForRangeChangesNothing();
+        refusedForRoomChangesNothing();
         outlivesCrash();
         Check.end();
     }
 
-    private static void addsGoalsUpToFour() {
+    /** "answers how many it has then" */
+    private static void answersHowManyItHasThen() {
         MailAgent agent = Check.agent();
-        Check.due("alias(0, 63)", agent.alias(0, 63), 1);
-        Check.due("alias(0, 0)", agent.alias(0, 0), 2);
-        Check.due("alias(0, 63) again", agent.alias(0, 63), MailAgent.FULL);
-        Check.due("alias(0, 31)", agent.alias(0, 31), 3);
-        Check.due("alias(0, 32)", agent.alias(0, 32), 4);
-        Check.due("a fifth goal", agent.alias(0, 33), MailAgent.FULL);
-        Check.due("one of the four again", agent.alias(0, 31), MailAgent.FULL);
-        Check.due("unalias(0)", agent.unalias(0), 4);
-        Check.due("alias(0, 33)", agent.alias(0, 33), 1);
+        Check.due("alias(1, 63)", agent.alias(1, 63), 1);
+        Check.due("alias(1, 0)", agent.alias(1, 0), 2);
+        Check.due("alias(1, 31)", agent.alias(1, 31), 3);
+        Check.due("alias(1, 32)", agent.alias(1, 32), 4);
+        Check.finalsAre(agent, 1, 0, 31, 32, 63);
+    }
+
+    /** "It has 4 goals [...]: FULL." */
+    private static void refusesAFifthGoal() {
+        MailAgent agent = agentWithFourGoals();
+        for (int goal : new int[] {0, 1, 7, 12, 63}) {
+            Check.due("a fifth goal, " + goal, agent.alias(1, goal), MailAgent.FULL);
+        }
+        Check.due("one of the four again", agent.alias(1, 8), MailAgent.FULL);
+        Check.due("unalias(1)", agent.unalias(1), 4);
+        Check.due("there is room again", agent.alias(1, 12), 1);
+    }
+
+    /** "It has [...] this one: FULL." */
+    private static void refusesAGoalThatItHas() {
+        for (int goal : new int[] {0, 1, 31, 32, 63}) {
+            MailAgent agent = Check.agent();
+            Check.due("alias(1, " + goal + ")", agent.alias(1, goal), 1);
+            Check.due("alias(1, " + goal + ") again", agent.alias(1, goal), MailAgent.FULL);
+            Check.due("another one", agent.alias(1, 40), 2);
+            Check.due("alias(1, " + goal + ") again", agent.alias(1, goal), MailAgent.FULL);
+            Check.due("unalias(1)", agent.unalias(1), 2);
+            Check.due("alias(1, " + goal + ") anew", agent.alias(1, goal), 1);
+        }
     }
 
     private static void keepsLocalsApart() {
@@ -35,32 +61,67 @@ public final class Promise02AliasTest {
         Check.due("count(6)", agent.count(6), 3);
     }
 
-    private static void refusesWhatIsOutOfRange() {
-        MailAgent agent = Check.agent();
-        int[][] wrong = {{-1, 0}, {8, 0}, {0, -1}, {0, 64}, {Integer.MIN_VALUE, 1}, {Integer.MAX_VALUE, 1},
-            {1, Integer.MIN_VALUE}, {1, Integer.MAX_VALUE}};
-        for (int[] pair : wrong) {
-            Check.due("alias(" + pair[0] + ", " + pair[1] + ")", agent.alias(pair[0], pair[1]), MailAgent.SYNTAX);
-        }
-        for (int goal = 8; goal < 12; goal++) {
-            agent.alias(0, goal);
-        }
-        Check.due("range before room", agent.alias(0, 64), MailAgent.SYNTAX);
-        Check.due("unalias(1)", agent.unalias(1), 0);
+    /** "a local address (0 .. 7)" */
+    private static void localIsZeroToSeven() {
+        Check.range("alias(n, 9)", 0, 7, 1, local -> Check.agent().alias(local, 9));
     }
 
-    private static void refusalChangesNothing() {
+    /** "a goal (0 .. 63)" */
+    private static void goalIsZeroToSixtyThree() {
+        Check.range("alias(0, n)", 0, 63, 1, goal -> Check.agent().alias(0, goal));
+        Check.range("alias(7, n)", 0, 63, 1, goal -> Check.agent().alias(7, goal));
+    }
+
+    /** "and that is tested before all else" */
+    private static void testsTheRangeBeforeTheRoom() {
+        MailAgent agent = agentWithFourGoals();
+        Check.due("alias(1, 64)", agent.alias(1, 64), MailAgent.SYNTAX);
+        Check.due("alias(1, -1)", agent.alias(1, -1), MailAgent.SYNTAX);
+        Check.due("alias(8, 64)", agent.alias(8, 64), MailAgent.SYNTAX);
+    }
+
+    private static void refusedForRangeChangesNothing() {
         MailAgent agent = Check.agent();
         agent.alias(2, 9);
-        agent.alias(2, 9);
-        agent.alias(2, 64);
+        for (int wrong : Check.outside(0, 63)) {
+            agent.alias(2, wrong);
+        }
+        for (int wrong : Check.outside(0, 7)) {
+            agent.alias(wrong, 10);
+        }
+        Check.finalsAre(agent, 2, 9);
         Check.due("unalias(2)", agent.unalias(2), 1);
+        for (int local = 0; local < 8; local++) {
+            Check.due("unalias(" + local + ")", agent.unalias(local), 0);
+        }
     }
 
+    private static void refusedForRoomChangesNothing() {
+        MailAgent agent = agentWithFourGoals();
+        agent.alias(1, 12);
+        agent.alias(1, 8);
+        Check.finalsAre(agent, 1, 8, 9, 10, 11);
+        Check.due("unalias(1)", agent.unalias(1), 4);
+        agent.alias(1, 50);
+        agent.alias(1, 50);
+        Check.finalsAre(agent, 1, 50);
+        Check.due("unalias(1)", agent.unalias(1), 1);
+    }
+
+    /** "aliases [...] are never lost" */
     private static void outlivesCrash() {
         MailAgent agent = Check.agent();
         agent.alias(2, 9);
         agent.crash();
+        Check.finalsAre(agent, 2, 9);
         Check.due("unalias(2)", agent.unalias(2), 1);
+    }
+
+    private static MailAgent agentWithFourGoals() {
+        MailAgent agent = Check.agent();
+        for (int i = 0; i < 4; i++) {
+            Check.due("goal " + (i + 1), agent.alias(1, 8 + i), i + 1);
+        }
+        return agent;
     }
 }

@@ -1,27 +1,49 @@
 /** Promise 3: unalias. */
 public final class Promise03UnaliasTest {
     public static void main(String[] args) {
+        answersHowManyItHad();
         takesAllGoals();
+        takesThemFromThisAddressAlone();
         leavesRecipientsAsTheyAre();
-        refusesWhatIsOutOfRange();
+        localIsZeroToSeven();
+        refusedChangesNothing();
         Check.end();
     }
 
+    /** "answers how many it had": from none to the most there can be. */
+    private static void answersHowManyItHad() {
+        for (int local = 0; local < 8; local++) {
+            for (int goals = 0; goals <= 4; goals++) {
+                MailAgent agent = Check.agent();
+                for (int i = 0; i < goals; i++) {
+                    agent.alias(local, 20 + i);
+                }
+                Check.due("unalias(" + local + ") of " + goals, agent.unalias(local), goals);
+                Check.due("unalias(" + local + ") again", agent.unalias(local), 0);
+            }
+        }
+    }
+
+    /** "Takes all goals from a local address" */
     private static void takesAllGoals() {
         MailAgent agent = Check.agent();
         agent.alias(7, 8);
         agent.alias(7, 9);
         agent.alias(7, 10);
-        agent.alias(0, 8);
         Check.due("unalias(7)", agent.unalias(7), 3);
-        Check.due("unalias(7) again", agent.unalias(7), 0);
-        agent.from(-1);
-        Check.due("to(7)", agent.to(7), 1);
-        Check.due("count(6)", agent.count(6), 1);
-        int number = agent.data(0);
-        Check.due("status of 7", agent.status(number, 7), Check.WAITING);
-        Check.due("status of 8", agent.status(number, 8), 0);
-        Check.due("unalias(0)", agent.unalias(0), 1);
+        Check.finalsAre(agent, 7, 7);
+        Check.due("a goal that it had", agent.alias(7, 8), 1);
+    }
+
+    private static void takesThemFromThisAddressAlone() {
+        MailAgent agent = Check.agent();
+        for (int local = 0; local < 8; local++) {
+            agent.alias(local, 40 + local);
+        }
+        agent.unalias(3);
+        for (int local = 0; local < 8; local++) {
+            Check.finalsAre(agent, local, local == 3 ? 3 : 40 + local);
+        }
     }
 
     private static void leavesRecipientsAsTheyAre() {
@@ -35,10 +57,22 @@ public final class Promise03UnaliasTest {
         Check.due("status of 1", agent.status(number, 1), 0);
     }
 
-    private static void refusesWhatIsOutOfRange() {
+    /** "a local address (0 .. 7)" */
+    private static void localIsZeroToSeven() {
+        Check.range("unalias(n)", 0, 7, 0, local -> Check.agent().unalias(local));
+        Check.due("unalias(63)", Check.agent().unalias(63), MailAgent.SYNTAX);
+    }
+
+    private static void refusedChangesNothing() {
         MailAgent agent = Check.agent();
-        for (int local : new int[] {-1, 8, 63, Integer.MIN_VALUE, Integer.MAX_VALUE}) {
-            Check.due("unalias(" + local + ")", agent.unalias(local), MailAgent.SYNTAX);
+        for (int local = 0; local < 8; local++) {
+            agent.alias(local, 50);
+        }
+        for (int wrong : Check.outside(0, 7)) {
+            agent.unalias(wrong);
+        }
+        for (int local = 0; local < 8; local++) {
+            Check.due("unalias(" + local + ")", agent.unalias(local), 1);
         }
     }
 }

@@ -1,264 +1,205 @@
-/** Promise 10: tick, and the attempt on a message. */
+/** Promise 10: tick. What an attempt does is in TermsAttemptTest. */
 public final class Promise10TickTest {
     public static void main(String[] args) {
         setsTheClock();
-        refusesWhatIsOutOfRange();
-        attemptsOnlyWhatIsDue();
+        timeIsNotBeforeTheClock();
+        timeIsNotAboveTheLast();
+        refusedSetsNoClock();
+        refusedMakesNoAttempt();
+        dueTimeIsNotAboveIt();
+        dueTimeIsAboveIt();
+        lastTimeIsTimeToo();
         attemptsByRisingNumber();
         attemptsEachMessageOnce();
-        doublesTheGap();
-        failsWithoutRoutes();
-        triesOnlyTheWaiting();
-        givesUpInTime();
-        reportsToTheSender();
-        reportFollowsNoAlias();
-        reportFailsSilently();
-        reportIsPutOffToo();
-        reportWaitsFromItsOwnStart();
-        nobodyGetsNoReport();
-        remembersEarlierFailure();
-        removesFromTheMiddle();
-        keepsFewerThan24Changes();
+        attemptsAllAfterOneHasLeft();
+        emptyQueue();
+        fullQueue();
+        answersHowManyWereDelivered();
         Check.end();
     }
 
+    /** "Sets the clock to time" */
     private static void setsTheClock() {
         MailAgent agent = Check.agent();
-        for (int time : new int[] {0, 0, 1, 500, 999999, 1000000, 1000000}) {
+        for (int time : new int[] {0, 0, 1, 500, 500, 999999, 1000000, 1000000}) {
             Check.due("tick(" + time + ")", agent.tick(time), 0);
             Check.due("count(4)", agent.count(4), time);
         }
     }
 
-    private static void refusesWhatIsOutOfRange() {
+    /** "(from the clock to 1000000; else SYNTAX)": the clock itself is allowed, what is before it is not. */
+    private static void timeIsNotBeforeTheClock() {
+        for (int clock : new int[] {0, 1, 50, 256, 65536, 999999, 1000000}) {
+            MailAgent agent = Check.agent();
+            agent.tick(clock);
+            for (int time : new int[] {clock - 1, -1, clock - 65536 - 1, Integer.MIN_VALUE}) {
+                Check.due("tick(" + time + ") at " + clock, agent.tick(time), MailAgent.SYNTAX);
+            }
+            Check.due("count(4)", agent.count(4), clock);
+            Check.due("tick(" + clock + ") again", agent.tick(clock), 0);
+        }
+    }
+
+    /** "(from the clock to 1000000; else SYNTAX)": the last time is allowed, what is above it is not. */
+    private static void timeIsNotAboveTheLast() {
+        for (int clock : new int[] {0, 999999, 1000000}) {
+            MailAgent agent = Check.agent();
+            agent.tick(clock);
+            for (int time : new int[] {1000001, 1000002, 1 << 24, Integer.MAX_VALUE}) {
+                Check.due("tick(" + time + ") at " + clock, agent.tick(time), MailAgent.SYNTAX);
+            }
+            Check.due("count(4)", agent.count(4), clock);
+            Check.due("tick(1000000)", agent.tick(1000000), 0);
+            Check.due("count(4)", agent.count(4), 1000000);
+        }
+    }
+
+    private static void refusedSetsNoClock() {
+        MailAgent agent = Check.agent();
+        agent.tick(50);
+        for (int time : new int[] {49, 0, -1, 1000001, Integer.MIN_VALUE, Integer.MAX_VALUE}) {
+            Check.due("tick(" + time + ")", agent.tick(time), MailAgent.SYNTAX);
+            Check.due("count(4)", agent.count(4), 50);
+        }
+        Check.send(agent, -1, 0, 1);
+        Check.due("a new message's due time", agent.due(1), 50);
+    }
+
+    private static void refusedMakesNoAttempt() {
         MailAgent agent = Check.agent();
         agent.tick(50);
         Check.send(agent, -1, 0, 1);
         for (int time : new int[] {49, 0, -1, 1000001, Integer.MIN_VALUE, Integer.MAX_VALUE}) {
             Check.due("tick(" + time + ")", agent.tick(time), MailAgent.SYNTAX);
         }
-        Check.due("count(4)", agent.count(4), 50);
         Check.due("count(0)", agent.count(0), 1);
+        Check.due("count(3)", agent.count(3), 0);
+        Check.due("status(1, 1)", agent.status(1, 1), Check.WAITING);
+        Check.due("received(1, 0)", agent.received(1, 0), 0);
         Check.due("tick(50)", agent.tick(50), 1);
     }
 
-    private static void attemptsOnlyWhatIsDue() {
+    /** "each message of the queue whose due time is not above it": one that is due at the time is tried. */
+    private static void dueTimeIsNotAboveIt() {
+        for (int late = 0; late < 3; late++) {
+            MailAgent agent = agentWithMessageDueAtFive();
+            Check.due("tick(" + (5 + late) + ")", agent.tick(5 + late), 1);
+            Check.due("count(0)", agent.count(0), 0);
+        }
+    }
+
+    /** "each message of the queue whose due time is not above it": one that is due a moment later is not tried. */
+    private static void dueTimeIsAboveIt() {
+        MailAgent agent = agentWithMessageDueAtFive();
+        agent.sync();
+        for (int time = 0; time < 5; time++) {
+            Check.due("tick(" + time + ")", agent.tick(time), 0);
+            Check.due("due(1)", agent.due(1), 5);
+            Check.due("count(3)", agent.count(3), 0);
+        }
+        Check.due("tick(5)", agent.tick(5), 1);
+    }
+
+    private static void lastTimeIsTimeToo() {
         MailAgent agent = Check.busyAgent();
         Check.send(agent, -1, 0, 8);
-        agent.tick(0);
+        agent.tick(999999);
+        Check.due("gone, since it waited too long", agent.count(0), 0);
+        Check.send(agent, -1, 0, 8);
+        agent.tick(1000000);
+        Check.due("put off beyond the last time", agent.due(2), 1000005);
         agent.host(1, Check.UP);
-        Check.due("tick(4), a moment too early", agent.tick(4), 0);
-        Check.due("due(1)", agent.due(1), 5);
-        Check.due("tick(5)", agent.tick(5), 1);
-        Check.due("count(0)", agent.count(0), 0);
+        Check.due("not due any more", agent.tick(1000000), 0);
+        agent.hurry(2);
+        Check.due("due by hurry", agent.tick(1000000), 1);
     }
 
+    /** "by rising number" */
     private static void attemptsByRisingNumber() {
         MailAgent agent = Check.agent();
-        Check.send(agent, -1, 0, 3);
-        Check.send(agent, -1, 0, 3, 4);
-        Check.send(agent, -1, 0, 3);
-        Check.due("tick(0)", agent.tick(0), 4);
-        Check.due("the last one for 3", agent.received(3, 2), 3);
-        Check.due("the last one for 4", agent.received(4, 2), 2);
-        Check.due("count(0)", agent.count(0), 0);
-        Check.due("4 delivered, 3 left", agent.count(3), 7);
+        for (int number = 1; number <= 6; number++) {
+            Check.send(agent, -1, 0, 3, number % 2 + 4);
+            Check.due("tick(0)", agent.tick(0), 2 * number);
+            Check.due("the last one for 3", agent.received(3, 2), number);
+            agent.crash();
+        }
+        Check.due("all six", agent.tick(0), 12);
+        Check.due("the last one for 3", agent.received(3, 2), 6);
+        Check.due("the last even one", agent.received(4, 2), 6);
+        Check.due("the last odd one", agent.received(5, 2), 5);
     }
 
+    /** "one attempt each": a report is due at once and still waits for the next tick. */
     private static void attemptsEachMessageOnce() {
         MailAgent agent = Check.agent();
         Check.send(agent, 3, 0, 8);
         Check.due("tick(10)", agent.tick(10), 0);
         Check.due("due of the report", agent.due(1), 10);
         Check.due("received(3, 1)", agent.received(3, 1), 0);
+        Check.due("failed, report", agent.count(3), 2);
         Check.due("tick(10)", agent.tick(10), 1);
         Check.due("received(3, 1)", agent.received(3, 1), 1);
     }
 
-    private static void doublesTheGap() {
-        MailAgent agent = new MailAgent(3, 20, 1000);
-        agent.route(1, 1, 1);
-        agent.host(1, Check.BUSY);
-        Check.send(agent, -1, 0, 8);
-        int[] ticks = {2, 7, 13, 25, 60, 80};
-        int[] dues = {5, 13, 25, 45, 80, 100};
-        for (int i = 0; i < ticks.length; i++) {
-            Check.due("tick(" + ticks[i] + ")", agent.tick(ticks[i]), 0);
-            Check.due("due after tick(" + ticks[i] + ")", agent.due(1), dues[i]);
-            Check.due("count(3)", agent.count(3), i + 1);
+    /** None is left out when one before it leaves the queue: all the ways in which six may leave or stay. */
+    private static void attemptsAllAfterOneHasLeft() {
+        for (int leaving = 0; leaving < 64; leaving++) {
+            MailAgent agent = Check.busyAgent();
+            for (int i = 0; i < 6; i++) {
+                Check.send(agent, -1, 0, (leaving >> i & 1) == 1 ? i : 8 + i);
+            }
+            Check.due("tick(3)", agent.tick(3), Integer.bitCount(leaving));
+            int k = 0;
+            for (int i = 0; i < 6; i++) {
+                boolean stays = (leaving >> i & 1) == 0;
+                Check.due("due(" + (i + 1) + ")", agent.due(i + 1), stays ? 8 : -1);
+                if (stays) {
+                    Check.due("message(" + k + ")", agent.message(k), i + 1);
+                    k++;
+                }
+            }
+            Check.due("count(0)", agent.count(0), k);
         }
     }
 
-    private static void failsWithoutRoutes() {
-        MailAgent agent = Check.busyAgent();
-        Check.send(agent, 3, 0, 8, 16, 4);
-        Check.due("tick(0)", agent.tick(0), 1);
-        Check.due("busy", agent.status(1, 8), Check.WAITING);
-        Check.due("no routes", agent.status(1, 16), Check.FAILED);
-        Check.due("local", agent.status(1, 4), Check.DELIVERED);
-        Check.due("failed, delivered, put off", agent.count(3), 3);
-        Check.due("count(2)", agent.count(2), 1);
-    }
-
-    private static void triesOnlyTheWaiting() {
-        MailAgent agent = Check.busyAgent();
-        Check.send(agent, -1, 0, 4, 8, 16);
-        agent.tick(0);
-        agent.route(2, 2, 0);
-        Check.due("tick(5)", agent.tick(5), 0);
-        Check.due("what was delivered is not again", agent.received(4, 0), 1);
-        Check.due("what failed is not tried again", agent.status(1, 16), Check.FAILED);
-        Check.due("received(16, 0)", agent.received(16, 0), 0);
-    }
-
-    private static void givesUpInTime() {
-        MailAgent agent = Check.busyAgent();
-        Check.send(agent, 3, 10, 8, 9);
-        agent.tick(59);
-        Check.due("both wait", agent.count(2), 2);
-        agent.hurry(1);
-        agent.sync();
-        Check.due("tick(60)", agent.tick(60), 0);
-        Check.due("two failed, one report", agent.count(3), 3);
-        Check.due("status(1, 3)", agent.status(1, 3), Check.WAITING);
-        Check.due("status(1, 8)", agent.status(1, 8), 0);
-        deliversBeforeItGivesUp();
-    }
-
-    private static void deliversBeforeItGivesUp() {
-        MailAgent agent = Check.routedAgent();
-        Check.send(agent, 3, 10, 8, 9);
-        Check.due("tick(60)", agent.tick(60), 2);
-        Check.due("count(0)", agent.count(0), 0);
-        Check.due("received(3, 1)", agent.received(3, 1), 0);
-    }
-
-    private static void reportsToTheSender() {
+    private static void emptyQueue() {
         MailAgent agent = Check.agent();
-        agent.route(5, 6, 0);
-        Check.send(agent, 40, 30, 4, 8, 9);
-        Check.due("tick(7)", agent.tick(7), 1);
-        Check.due("message(0)", agent.message(0), 1);
-        Check.due("sender(1)", agent.sender(1), -1);
-        Check.due("count(1)", agent.count(1), 2);
-        Check.due("count(2)", agent.count(2), 1);
-        Check.due("due(1)", agent.due(1), 7);
-        Check.due("status(1, 40)", agent.status(1, 40), Check.WAITING);
-        Check.due("status(1, 4)", agent.status(1, 4), 0);
-        Check.due("delivered, failed, failed, report", agent.count(3), 4);
-        Check.due("tick(8)", agent.tick(8), 1);
-        Check.due("received(40, 0)", agent.received(40, 0), 0);
-        Check.due("received(40, 1)", agent.received(40, 1), 1);
-        Check.due("received(40, 2)", agent.received(40, 2), 1);
-        Check.due("received(6, 3)", agent.received(6, 3), 1);
-        Check.due("count(0)", agent.count(0), 0);
-        Check.due("count(3)", agent.count(3), 6);
-    }
-
-    private static void reportFollowsNoAlias() {
-        MailAgent agent = Check.agent();
-        agent.alias(3, 4);
-        Check.send(agent, 3, 0, 8);
-        agent.tick(0);
-        Check.due("status(1, 3)", agent.status(1, 3), Check.WAITING);
-        Check.due("tick(0)", agent.tick(0), 1);
-        Check.due("received(3, 1)", agent.received(3, 1), 1);
-        Check.due("received(4, 1)", agent.received(4, 1), 0);
-    }
-
-    private static void reportFailsSilently() {
-        MailAgent agent = Check.agent();
-        Check.send(agent, 40, 0, 8);
-        agent.tick(0);
-        Check.due("status(1, 40)", agent.status(1, 40), Check.WAITING);
         Check.due("tick(0)", agent.tick(0), 0);
-        Check.due("count(0)", agent.count(0), 0);
-        Check.due("failed, report, failed, left", agent.count(3), 4);
+        Check.due("tick(1000000)", agent.tick(1000000), 0);
+        Check.due("count(3)", agent.count(3), 0);
     }
 
-    private static void reportIsPutOffToo() {
-        MailAgent agent = Check.busyAgent();
-        Check.send(agent, 8, 0, 9);
-        agent.tick(0);
-        agent.tick(5);
-        Check.due("the second gap", agent.due(1), 15);
-        agent.tick(60);
-        Check.due("the report is due at once", agent.due(1), 60);
-        Check.due("its recipient is the sender", agent.status(1, 8), Check.WAITING);
-        agent.tick(61);
-        Check.due("the report's gap is minGap", agent.due(1), 66);
-        agent.tick(66);
-        Check.due("and doubled", agent.due(1), 76);
-    }
-
-    private static void reportWaitsFromItsOwnStart() {
-        MailAgent agent = Check.busyAgent();
-        Check.send(agent, 8, 0, 9);
-        agent.tick(70);
-        agent.tick(129);
-        Check.due("it waits for 59", agent.status(1, 8), Check.WAITING);
-        agent.hurry(1);
-        agent.tick(130);
-        Check.due("and is given up after 60", agent.count(0), 0);
-    }
-
-    private static void nobodyGetsNoReport() {
-        MailAgent agent = Check.agent();
-        Check.send(agent, -1, 0, 8);
-        agent.tick(0);
-        Check.due("count(0)", agent.count(0), 0);
-        Check.due("failed, left", agent.count(3), 2);
-    }
-
-    private static void remembersEarlierFailure() {
-        MailAgent agent = Check.busyAgent();
-        Check.send(agent, 3, 0, 16, 8);
-        agent.tick(0);
-        agent.host(1, Check.UP);
-        Check.due("tick(5)", agent.tick(5), 1);
-        Check.due("a report all the same", agent.status(1, 3), Check.WAITING);
-    }
-
-    private static void removesFromTheMiddle() {
-        MailAgent agent = Check.busyAgent();
-        Check.send(agent, -1, 0, 8);
-        Check.send(agent, -1, 0, 1);
-        Check.send(agent, -1, 0, 2);
-        Check.send(agent, -1, 0, 9);
-        Check.send(agent, 5, 0, 16);
-        Check.send(agent, -1, 0, 3);
-        Check.due("tick(0)", agent.tick(0), 3);
-        Check.due("count(0)", agent.count(0), 3);
-        int[] left = {1, 4, 5, 0};
-        for (int k = 0; k < left.length; k++) {
-            Check.due("message(" + k + ")", agent.message(k), left[k]);
-        }
-        Check.due("due(1)", agent.due(1), 5);
-        Check.due("due(4)", agent.due(4), 5);
-        Check.due("status(5, 5)", agent.status(5, 5), Check.WAITING);
-    }
-
-    private static void keepsFewerThan24Changes() {
-        for (int before = 20; before <= 22; before++) {
-            MailAgent agent = Check.agent();
-            Check.send(agent, -1, 0, 1);
-            Check.makeChanges(agent, 1, before);
-            Check.due("tick(0), two changes more", agent.tick(0), 1);
-            Check.due("count(3)", agent.count(3), before + 2 < 24 ? before + 2 : 0);
-            Check.due("crash()", agent.crash(), before + 2 < 24 ? before + 2 : 0);
-            Check.due("count(0)", agent.count(0), before + 2 < 24 ? 1 : 0);
-        }
-        moreThan24AtOnce();
-    }
-
-    private static void moreThan24AtOnce() {
+    private static void fullQueue() {
         MailAgent agent = Check.agent();
         for (int i = 0; i < 6; i++) {
-            Check.send(agent, -1, 0, 1, 2, 3, 4);
+            Check.send(agent, -1, 5, 1, 2, 3, 4);
         }
+        Check.due("count(1)", agent.count(1), 60);
         Check.due("tick(0)", agent.tick(0), 24);
-        Check.due("30 changes at the end of the call", agent.count(3), 0);
-        Check.due("crash()", agent.crash(), 0);
         Check.due("count(0)", agent.count(0), 0);
+        Check.due("count(1)", agent.count(1), 0);
+    }
+
+    /** "Answers how many recipients were delivered.": not those that fail, wait, or were delivered before. */
+    private static void answersHowManyWereDelivered() {
+        MailAgent agent = Check.busyAgent();
+        Check.send(agent, 3, 0, 1, 8, 16, 2);
+        Check.send(agent, 4, 0, 16);
+        Check.due("two of four", agent.tick(0), 2);
+        Check.due("a report", agent.tick(1), 1);
+        agent.host(1, Check.UP);
+        Check.due("one that waited", agent.tick(5), 1);
+        Check.due("its report", agent.tick(5), 1);
+        Check.due("nothing is left", agent.tick(5), 0);
+    }
+
+    /** Host 1 is UP again. */
+    private static MailAgent agentWithMessageDueAtFive() {
+        MailAgent agent = Check.busyAgent();
+        Check.send(agent, -1, 0, 8);
+        agent.tick(0);
+        Check.due("due(1)", agent.due(1), 5);
+        agent.host(1, Check.UP);
+        return agent;
     }
 }

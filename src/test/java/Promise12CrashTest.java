@@ -1,19 +1,73 @@
 /** Promise 12: crash. */
 public final class Promise12CrashTest {
     public static void main(String[] args) {
+        answersHowManyWereUndone();
+        nothingToUndo();
+        nothingToUndoAfterTheTwentyFourth();
         bringsBackWhatLeft();
+        bringsBackAnEmptyQueueToAFullOne();
         bringsBackStatesDueGapAndStart();
         bringsBackWhatBecameAReport();
         bringsBackTheStartFromAReport();
         bringsBackAReportAsAReport();
         closesTheTransaction();
+        closesAFullTransaction();
+        noneWasOpen();
         keepsDeliveriesAndClock();
+        keepsAliasesRoutesAndHosts();
         undoesOnlyWhatIsNotDurable();
         undoesAgainAndAgain();
         numbersGoOn();
         Check.end();
     }
 
+    /** "Answers how many were undone.": from none to the most there can be. */
+    private static void answersHowManyWereUndone() {
+        MailAgent agent = Check.agent();
+        Check.send(agent, -1, 0, 1);
+        for (int changes = 0; changes < 24; changes++) {
+            Check.makeChanges(agent, 1, changes);
+            Check.due("crash() of " + changes, agent.crash(), changes);
+            Check.due("count(3)", agent.count(3), 0);
+            Check.due("crash() again", agent.crash(), 0);
+        }
+    }
+
+    private static void nothingToUndo() {
+        MailAgent agent = Check.agent();
+        Check.due("at first", agent.crash(), 0);
+        Check.due("count(0)", agent.count(0), 0);
+        Check.send(agent, 5, 7, 1);
+        Check.due("after data", agent.crash(), 0);
+        Check.due("count(0)", agent.count(0), 1);
+        Check.due("count(1)", agent.count(1), 9);
+        agent.hurry(1);
+        agent.sync();
+        Check.due("after sync", agent.crash(), 0);
+        agent.hurry(1);
+        agent.crash();
+        Check.due("after a crash", agent.crash(), 0);
+    }
+
+    /** "all become durable": the 24th change takes the other 23 with it. */
+    private static void nothingToUndoAfterTheTwentyFourth() {
+        MailAgent agent = Check.busyAgent();
+        Check.send(agent, -1, 0, 8);
+        agent.tick(0);
+        Check.makeChanges(agent, 1, 22);
+        agent.tick(1);
+        Check.due("the 23rd", agent.count(3), 23);
+        Check.due("due(1)", agent.due(1), 11);
+        agent.hurry(1);
+        Check.due("crash()", agent.crash(), 0);
+        Check.due("due(1)", agent.due(1), 1);
+        agent.tick(1);
+        Check.due("the gap was doubled twice", agent.due(1), 21);
+        Check.due("crash()", agent.crash(), 1);
+        Check.due("due(1)", agent.due(1), 1);
+    }
+
+    /** "the queue [...] is what it was before the first of them" */
     private static void bringsBackWhatLeft() {
         MailAgent agent = Check.agent();
         for (int i = 1; i <= 6; i++) {
@@ -33,6 +87,28 @@ public final class Promise12CrashTest {
         }
     }
 
+    private static void bringsBackAnEmptyQueueToAFullOne() {
+        MailAgent agent = Check.agent();
+        for (int i = 1; i <= 6; i++) {
+            Check.send(agent, i, 5, i, 7, 0, i + 8);
+        }
+        agent.sync();
+        for (int i = 1; i <= 6; i++) {
+            agent.drop(i);
+        }
+        Check.due("count(0)", agent.count(0), 0);
+        Check.due("count(1)", agent.count(1), 0);
+        Check.due("crash()", agent.crash(), 6);
+        Check.due("count(0)", agent.count(0), 6);
+        Check.due("count(1)", agent.count(1), 60);
+        Check.due("count(2)", agent.count(2), 24);
+        for (int i = 1; i <= 6; i++) {
+            Check.due("sender(" + i + ")", agent.sender(i), i);
+            Check.due("status(" + i + ", " + (i + 8) + ")", agent.status(i, i + 8), Check.WAITING);
+        }
+    }
+
+    /** "with all that its messages have" */
     private static void bringsBackStatesDueGapAndStart() {
         MailAgent agent = Check.busyAgent();
         agent.tick(10);
@@ -98,6 +174,7 @@ public final class Promise12CrashTest {
         Check.due("received(3, 0)", agent.received(3, 0), 0);
     }
 
+    /** "The transaction is no longer open." */
     private static void closesTheTransaction() {
         MailAgent agent = Check.agent();
         agent.from(1);
@@ -108,6 +185,48 @@ public final class Promise12CrashTest {
         Check.due("data(0)", agent.data(0), MailAgent.SEQUENCE);
     }
 
+    /** "The transaction is no longer open.": nothing of it comes into the next one. */
+    private static void closesAFullTransaction() {
+        MailAgent agent = Check.agent();
+        agent.from(1);
+        for (int address = 0; address < 4; address++) {
+            agent.to(address);
+        }
+        agent.crash();
+        Check.due("count(6)", agent.count(6), -1);
+        agent.from(2);
+        Check.due("count(6)", agent.count(6), 0);
+        Check.due("to(3)", agent.to(3), 1);
+        Check.due("data(0)", agent.data(0), 1);
+        Check.due("sender(1)", agent.sender(1), 2);
+        Check.due("status(1, 0)", agent.status(1, 0), 0);
+    }
+
+    private static void noneWasOpen() {
+        MailAgent agent = Check.agent();
+        Check.due("crash()", agent.crash(), 0);
+        Check.due("count(6)", agent.count(6), -1);
+        agent.from(2);
+        Check.due("count(6)", agent.count(6), 0);
+    }
+
+    /** "aliases, routes, hosts and the clock are never lost" */
+    private static void keepsAliasesRoutesAndHosts() {
+        MailAgent agent = Check.agent();
+        Check.send(agent, 1, 0, 2);
+        agent.hurry(1);
+        agent.alias(0, 1);
+        agent.route(1, 3, 1);
+        agent.host(3, Check.GONE);
+        agent.tick(1000000);
+        Check.due("crash()", agent.crash(), 3);
+        Check.due("count(4)", agent.count(4), 1000000);
+        Check.due("unalias(0)", agent.unalias(0), 1);
+        Check.due("unroute(1)", agent.unroute(1), 1);
+        Check.due("host(3, 0)", agent.host(3, 0), Check.GONE);
+    }
+
+    /** "What is delivered (received, carried) stays so whatever happens" */
     private static void keepsDeliveriesAndClock() {
         MailAgent agent = Check.routedAgent();
         Check.send(agent, 1, 0, 2, 8);

@@ -2,10 +2,14 @@
 public final class Promise16MessageTest {
     public static void main(String[] args) {
         listsByRisingNumber();
-        answersZeroOutside();
+        emptyQueue();
+        indexBehindTheLast();
+        indexBelowZero();
+        indexOfAFullQueue();
         Check.end();
     }
 
+    /** "(from 0, by rising number)" */
     private static void listsByRisingNumber() {
         MailAgent agent = Check.agent();
         for (int i = 1; i <= 6; i++) {
@@ -18,16 +22,51 @@ public final class Promise16MessageTest {
         Check.send(agent, -1, 0, 1);
         Check.send(agent, -1, 0, 1);
         messagesAre(agent, 1, 3, 4, 6, 7, 8);
+        agent.drop(1);
+        agent.drop(8);
+        messagesAre(agent, 3, 4, 6, 7);
+        agent.crash();
+        messagesAre(agent, 1, 3, 4, 6, 7, 8);
     }
 
-    private static void answersZeroOutside() {
+    /** "0 if there is none" */
+    private static void emptyQueue() {
+        MailAgent agent = Check.agent();
+        messagesAre(agent);
+        Check.send(agent, -1, 0, 1);
+        agent.drop(1);
+        messagesAre(agent);
+    }
+
+    /** "0 if there is none": the first index that is not used, for every size of the queue. */
+    private static void indexBehindTheLast() {
+        MailAgent agent = Check.agent();
+        for (int size = 0; size <= 6; size++) {
+            Check.due("the last index", agent.message(size - 1), size);
+            Check.due("the index behind it", agent.message(size), 0);
+            Check.send(agent, -1, 0, 1);
+        }
+    }
+
+    /** "0 if there is none" */
+    private static void indexBelowZero() {
         MailAgent agent = Check.agent();
         Check.send(agent, -1, 0, 1);
-        for (int k : new int[] {-1, 1, 5, 6, 7, Integer.MIN_VALUE, Integer.MAX_VALUE}) {
+        for (int k : new int[] {-1, -2, -256, -65536, Integer.MIN_VALUE}) {
             Check.due("message(" + k + ")", agent.message(k), 0);
         }
-        agent.drop(1);
-        Check.due("message(0)", agent.message(0), 0);
+    }
+
+    /** "0 if there is none": 5 is the last index that there can be. */
+    private static void indexOfAFullQueue() {
+        MailAgent agent = Check.agent();
+        for (int i = 1; i <= 6; i++) {
+            Check.send(agent, -1, 0, 1);
+        }
+        Check.due("message(5)", agent.message(5), 6);
+        for (int k : new int[] {6, 7, 256, 65536, Integer.MAX_VALUE, -1, Integer.MIN_VALUE}) {
+            Check.due("message(" + k + ")", agent.message(k), 0);
+        }
     }
 
     private static void messagesAre(MailAgent agent, int... numbers) {

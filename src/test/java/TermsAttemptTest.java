@@ -10,6 +10,7 @@ public final class TermsAttemptTest {
         beforeStartAndGiveUp();
         atStartAndGiveUp();
         pastStartAndGiveUp();
+        notDueIsNotGivenUp();
         deliversBeforeItGivesUp();
         dueIsClockAndGap();
         gapIsDoubledToMaxGapAtMost();
@@ -155,6 +156,18 @@ public final class TermsAttemptTest {
             Check.due("two failed, one report", agent.count(3), 3);
             Check.due("due(1)", agent.due(1), late);
         }
+    }
+
+    /** Giving up is a part of an attempt: what is not due yet waits on. */
+    private static void notDueIsNotGivenUp() {
+        MailAgent agent = Check.busyAgent();
+        Check.send(agent, 3, 0, 8);
+        agent.tick(59);
+        Check.due("due(1)", agent.due(1), 64);
+        agent.tick(63);
+        Check.due("status(1, 8)", agent.status(1, 8), Check.WAITING);
+        agent.tick(64);
+        Check.due("status(1, 3)", agent.status(1, 3), Check.WAITING);
     }
 
     /** "Then": what can be delivered is delivered first, and what fails by itself fails once. */

@@ -18,6 +18,7 @@ public final class Promise12CrashTest {
         undoesOnlyWhatIsNotDurable();
         undoesAgainAndAgain();
         numbersGoOn();
+        numbersGoOnWhenTheLastHasLeft();
         Check.end();
     }
 
@@ -210,20 +211,31 @@ public final class Promise12CrashTest {
         Check.due("count(6)", agent.count(6), 0);
     }
 
-    /** "aliases, routes, hosts and the clock are never lost" */
+    /** "aliases, routes, hosts and the clock are never lost": of every address, domain and host. */
     private static void keepsAliasesRoutesAndHosts() {
         MailAgent agent = Check.agent();
         Check.send(agent, 1, 0, 2);
         agent.hurry(1);
-        agent.alias(0, 1);
-        agent.route(1, 3, 1);
-        agent.host(3, Check.GONE);
+        for (int i = 0; i < 8; i++) {
+            agent.alias(i, 56 + i);
+            agent.alias(i, 8 + i);
+            agent.route(i, 7 - i, i);
+            agent.host(i, i % 2 == 0 ? Check.GONE : Check.BUSY);
+        }
         agent.tick(1000000);
         Check.due("crash()", agent.crash(), 3);
         Check.due("count(4)", agent.count(4), 1000000);
-        Check.due("unalias(0)", agent.unalias(0), 1);
-        Check.due("unroute(1)", agent.unroute(1), 1);
-        Check.due("host(3, 0)", agent.host(3, 0), Check.GONE);
+        agent.drop(1);
+        for (int i = 0; i < 8; i++) {
+            Check.finalsAre(agent, i, 56 + i, 8 + i);
+            Check.due("unalias(" + i + ")", agent.unalias(i), 2);
+            Check.due("host(" + i + ", 0)", agent.host(i, 0), i % 2 == 0 ? Check.GONE : Check.BUSY);
+        }
+        for (int domain = 1; domain < 8; domain++) {
+            Check.carriersAre(agent, domain, 7 - domain);
+            Check.due("host, once more UP", agent.host(7 - domain, 0), Check.BUSY);
+            Check.due("unroute(" + domain + ")", agent.unroute(domain), 1);
+        }
     }
 
     /** "What is delivered (received, carried) stays so whatever happens" */
@@ -277,5 +289,21 @@ public final class Promise12CrashTest {
         agent.crash();
         Check.due("count(5)", agent.count(5), 1);
         Check.due("the next number", Check.send(agent, 3, 1, 1), 2);
+    }
+
+    /** A crash brings back no number of a message that has left for good, even if the queue is empty then. */
+    private static void numbersGoOnWhenTheLastHasLeft() {
+        MailAgent agent = Check.agent();
+        Check.send(agent, 3, 1, 1);
+        Check.send(agent, 3, 1, 2);
+        agent.drop(2);
+        agent.sync();
+        agent.crash();
+        Check.due("count(5)", agent.count(5), 2);
+        agent.drop(1);
+        agent.sync();
+        agent.crash();
+        Check.due("count(5)", agent.count(5), 2);
+        Check.due("the next number", Check.send(agent, 3, 1, 1), 3);
     }
 }

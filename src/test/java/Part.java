@@ -1,8 +1,8 @@
 import java.util.function.Consumer;
 
 /**
- * What an agent has, part by part, as it shows itself in answers. To look at a part may spend the agent, so each part is
- * looked at in an agent of its own. Of the messages, those with the numbers 1, 2 and 3 are looked at.
+ * What an agent has, part by part, as it shows itself in answers. To look at a part may spend the agent, so each part
+ * is looked at in an agent of its own. Of the messages, those with the numbers 1, 2 and 3 are looked at.
  */
 enum Part {
     SIZES(Part::lookAtSizes),

@@ -11,8 +11,10 @@ public final class RoomTest {
     private static final ThreadMXBean THREADS = (ThreadMXBean) ManagementFactory.getThreadMXBean();
 
     public static void main(String[] args) {
-        Check.isTrue("the machine counts what is made", THREADS.isThreadAllocatedMemorySupported()
-            && THREADS.isThreadAllocatedMemoryEnabled());
+        if (!THREADS.isThreadAllocatedMemorySupported() || !THREADS.isThreadAllocatedMemoryEnabled()) {
+            System.out.println("nothing was tested: this machine does not count what is made");
+            return;
+        }
         newAgentIsSmall();
         laterCallsMakeNothing();
         Check.end();
